@@ -481,8 +481,7 @@ public final class AteLeast {
         if (!isEater(eater) || !within(act, 2)) {
             return 0;
         }
-        acts.isOf(now.kind[eater], eater, now.v[eater]);
-        return acts.own(act, x, 0);
+        return acts.does(act, x, now.kind[eater], eater, now.v[eater]);
     }
 
     public int trace(int i) {
@@ -618,7 +617,7 @@ public final class AteLeast {
             held = other.held;
         }
 
-        /** Clears what an eater of that number left behind, whom undo() took away. */
+        /** Whoever is not there has eaten nothing and is told nothing: undo() brings that back, too. */
         int seat(int itsKind, int itsV, int itsHunger) {
             int number = eaters;
             if (number >= MOST_EATERS) {
@@ -627,9 +626,6 @@ public final class AteLeast {
             kind[number] = itsKind;
             v[number] = itsV;
             hunger[number] = itsHunger;
-            eaten[number] = 0;
-            glad[number] = 0;
-            Arrays.fill(rows, number * 4, number * 4 + 4, 0);
             eaters++;
             return number;
         }
@@ -674,6 +670,8 @@ public final class AteLeast {
         private final int[] wish = new int[MOST_EATERS];
         private final int[] thought = new int[MOST_EATERS];
         private final int[] ate = new int[MOST_EATERS];
+        /** What each ate by the scales. */
+        private final int[] portion = new int[MOST_EATERS];
         private final int[] letters = new int[LETTERS];
         /** Worth of the first slices together, and how many of them are known; costs, -1 while unknown. */
         private final int[] worth = new int[MOST_EATERS * 10];
@@ -762,6 +760,7 @@ public final class AteLeast {
             for (int e = 0; e < table.eaters; e++) {
                 ate[e] = Math.min(wishes[e], left);
                 left -= ate[e];
+                portion[e] = ate[e] / Math.max(1, house.scale);
             }
             baker = law == 2 ? middle() : outermost();
         }
@@ -769,7 +768,7 @@ public final class AteLeast {
         private int outermost() {
             int found = table.eaters > 0 ? 0 : NOBODY;
             for (int e = 1; e < table.eaters; e++) {
-                int more = portion(e) - portion(found);
+                int more = portion[e] - portion[found];
                 if (law == 0 ? more < 0 : more > 0) {
                     found = e;
                 }
@@ -789,7 +788,7 @@ public final class AteLeast {
         private int placeOf(int e) {
             int place = 0;
             for (int f = 0; f < table.eaters; f++) {
-                int more = portion(e) - portion(f);
+                int more = portion[e] - portion[f];
                 if (more > 0 || (more == 0 && f < e)) {
                     place++;
                 }
@@ -797,12 +796,8 @@ public final class AteLeast {
             return place;
         }
 
-        private int portion(int e) {
-            return ate[e] / Math.max(1, house.scale);
-        }
-
         boolean isLikeBaker(int e) {
-            return baker >= 0 && portion(e) == portion(baker);
+            return baker >= 0 && portion[e] == portion[baker];
         }
 
         int likeBaker() {
@@ -865,12 +860,16 @@ public final class AteLeast {
 
     /** Clauses; the tests of each stand as a row of signs, operands ahead of what joins them. */
     static final class House {
-        static final int NOT = -1, AND = -2, OR = -3;
+        static final int TEST = 0, NOT = 1, AND = 2, OR = 3;
 
         private final int[] sort = new int[MOST_CLAUSES];
         private final int[] n = new int[MOST_CLAUSES];
         private final int[] end = new int[MOST_CLAUSES];
         private final int[] signs = new int[MOST_BYTES];
+        /** Of each sign that is a test: the letter, the least and the most that it may be. */
+        private final int[] letter = new int[MOST_BYTES];
+        private final int[] least = new int[MOST_BYTES];
+        private final int[] most = new int[MOST_BYTES];
         private int clauses = 0;
         private int length = 0;
         int loaf = 8;
@@ -892,8 +891,15 @@ public final class AteLeast {
             }
         }
 
-        void addTest(int letter, int relation, int number) {
-            addSign((letter * 3 + relation) * 100 + number);
+        /** Relation: 0 below, 1 equal, 2 above the number. */
+        void addTest(int itsLetter, int relation, int number) {
+            if (length >= MOST_BYTES) {
+                return;
+            }
+            letter[length] = itsLetter;
+            least[length] = relation == 0 ? 0 : relation == 1 ? number : number + 1;
+            most[length] = relation == 0 ? number - 1 : relation == 1 ? number : Integer.MAX_VALUE;
+            addSign(TEST);
         }
 
         /** Ends a clause: the signs since the one before are its tests. */
@@ -933,25 +939,23 @@ public final class AteLeast {
         private boolean holds(int clause, int[] letters) {
             int stack = 0;
             for (int at = clause > 0 ? end[clause - 1] : 0; at < end[clause]; at++) {
-                int sign = signs[at];
-                switch (sign) {
-                    case NOT: stack ^= 1; break;
-                    case AND: stack = (stack >> 1) & (stack | -2); break;
-                    case OR: stack = (stack >> 1) | (stack & 1); break;
-                    default: stack = stack << 1 | (passes(sign, letters) ? 1 : 0); break;
+                switch (signs[at]) {
+                    case NOT:
+                        stack ^= 1;
+                        break;
+                    case AND:
+                        stack = (stack >> 1) & (stack | -2);
+                        break;
+                    case OR:
+                        stack = (stack >> 1) | (stack & 1);
+                        break;
+                    default:
+                        int value = letters[letter[at]];
+                        stack = stack << 1 | (value >= least[at] && value <= most[at] ? 1 : 0);
+                        break;
                 }
             }
             return (stack & 1) == 1;
-        }
-
-        private static boolean passes(int sign, int[] letters) {
-            int value = letters[Math.min(sign / 300, LETTERS - 1)];
-            int number = sign % 100;
-            switch (sign / 100 % 3) {
-                case 0: return value < number;
-                case 1: return value == number;
-                default: return value > number;
-            }
         }
     }
 
@@ -1040,16 +1044,13 @@ public final class AteLeast {
         }
 
         private boolean readNumber() {
-            if (!seesDigit()) {
-                return false;
-            }
-            value = text[at] - '0';
-            at++;
-            if (seesDigit()) {
+            int digits = 0;
+            value = 0;
+            for (; digits < 2 && at < length && text[at] >= '0' && text[at] <= '9'; digits++) {
                 value = value * 10 + text[at] - '0';
                 at++;
             }
-            return true;
+            return digits > 0;
         }
 
         /** E: T or T|E. Depth is how many ( and ! stand around. */
@@ -1093,12 +1094,12 @@ public final class AteLeast {
         }
 
         private boolean readTest() {
-            int letter = placeIn(LETTERS_OF_TESTS);
+            int letter = at < length ? LETTERS_OF_TESTS.indexOf(text[at]) : -1;
             if (letter < 0) {
                 return false;
             }
             at++;
-            int relation = placeIn(RELATIONS);
+            int relation = at < length ? RELATIONS.indexOf(text[at]) : -1;
             if (relation < 0) {
                 return false;
             }
@@ -1110,16 +1111,8 @@ public final class AteLeast {
             return true;
         }
 
-        private int placeIn(String signs) {
-            return at < length ? signs.indexOf(text[at]) : -1;
-        }
-
         private boolean sees(char sign) {
             return at < length && text[at] == sign;
-        }
-
-        private boolean seesDigit() {
-            return at < length && text[at] >= '0' && text[at] <= '9';
         }
 
         private boolean takes(char sign) {
@@ -1154,10 +1147,12 @@ public final class AteLeast {
         private int i = 0;
         private int v = 0;
 
-        void isOf(int itsKind, int number, int itsV) {
+        /** What the act of an eater of that kind, number and v answers. */
+        int does(int act, int x, int itsKind, int number, int itsV) {
             kind = itsKind;
             i = number;
             v = itsV;
+            return own(act, x, 0);
         }
 
         boolean isUnder(int itsKind, int top) {
@@ -1168,7 +1163,7 @@ public final class AteLeast {
             return k == top;
         }
 
-        int own(int act, int x, int depth) {
+        private int own(int act, int x, int depth) {
             return runs(BODY[kind * 3 + act], x, depth + 1);
         }
 

@@ -1,0 +1,186 @@
+import java.io.IOException;
+import java.lang.reflect.Constructor;
+import java.lang.reflect.Field;
+import java.lang.reflect.Method;
+import java.lang.reflect.Modifier;
+import java.nio.file.Files;
+import java.nio.file.Path;
+import java.util.Arrays;
+import java.util.HashSet;
+import java.util.List;
+import java.util.Set;
+import java.util.TreeSet;
+import java.util.regex.Matcher;
+import java.util.regex.Pattern;
+
+/** The public face, and the rules of LANGUAGE.md as far as the source and the class show them. */
+public final class LanguageTest {
+    private static final Due due = new Due("LanguageTest");
+    private static final String[] FACE = {
+        "int eater(int,int,int)", "int of(int,int)", "int hunger(int,int)", "int row(int,int,int)", "int bin(int)",
+        "int feed(int)", "int house()", "int told(int)", "int supper()", "int run(int,int)", "int round()",
+        "int still(int)", "int allBest(int)", "int laws(int)", "int cook(int,int)", "int thin(int)",
+        "int pact(int,int,int)", "int guest(int)", "long odds(int,int)", "long mean(int,int)", "int book(int)",
+        "int looked()", "int judge(int,int)", "int image()", "int undo()", "int act(int,int,int)", "int trace(int)",
+        "int taken(int,int)", "int count(int)", "int tape(int,int,int)", "int item(int,int,long)",
+        "long read(int,int)", "int shift(int,int,int,int,int)",
+    };
+    /** Words and signs that the rules leave out. */
+    private static final String[] LEFT_OUT = {
+        "\\bthrow\\b", "\\bthrows\\b", "\\btry\\b", "\\bcatch\\b", "\\bfinally\\b", "\\bsynchronized\\b",
+        "\\bassert\\b", "->", "::", "Exact\\b", "\\bpackage\\b", "\\bstatic \\{", "\\bvar\\b", "\\bwhile \\(true\\)",
+        "\\bMap\\b", "\\bSet\\b", "\\bRandom\\b", "\\bThread\\b", "\\bfloat\\b", "\\bdouble\\b", "@",
+        "System\\.(?!arraycopy\\()", "Arrays\\.(?!fill\\()", "\\?\\?\\?", "\\bequals\\b", "\\btoString\\b",
+    };
+
+    public static void main(String[] args) throws IOException {
+        face();
+        classes();
+        String source = Files.readString(Path.of("src/main/java/AteLeast.java"));
+        source(source);
+        lengths(source);
+        room();
+        due.end();
+    }
+
+    private static void right(String what, boolean right) {
+        due.is(what, right ? 1 : 0, 1);
+    }
+
+    private static String told(Method m) {
+        StringBuilder told = new StringBuilder(m.getReturnType() + " " + m.getName() + "(");
+        for (Class<?> type : m.getParameterTypes()) {
+            told.append(told.charAt(told.length() - 1) == '(' ? "" : ",").append(type);
+        }
+        return told.append(')').toString();
+    }
+
+    private static void face() {
+        Set<String> open = new TreeSet<>();
+        for (Method m : AteLeast.class.getDeclaredMethods()) {
+            if (!Modifier.isPrivate(m.getModifiers())) {
+                right("public " + m, Modifier.isPublic(m.getModifiers()) && !Modifier.isStatic(m.getModifiers()));
+                open.add(told(m));
+            }
+        }
+        right("methods " + open, open.equals(new TreeSet<>(Arrays.asList(FACE))));
+        Set<String> fields = new TreeSet<>();
+        for (Field f : AteLeast.class.getDeclaredFields()) {
+            if (!Modifier.isPrivate(f.getModifiers())) {
+                fields.add(Modifier.toString(f.getModifiers()) + " " + f.getType() + " " + f.getName());
+            }
+        }
+        right("constants " + fields, fields.equals(new TreeSet<>(List.of("public static final int NONE",
+            "public static final int BAD", "public static final int STATE", "public static final int FULL",
+            "public static final long NO"))));
+        Constructor<?>[] makers = AteLeast.class.getDeclaredConstructors();
+        right("one constructor", makers.length == 1 && makers[0].getParameterCount() == 0
+            && Modifier.isPublic(makers[0].getModifiers()));
+        int modifiers = AteLeast.class.getModifiers();
+        right("public and final", Modifier.isPublic(modifiers) && Modifier.isFinal(modifiers));
+    }
+
+    private static void classes() {
+        Set<String> names = new HashSet<>();
+        for (String call : FACE) {
+            names.add(call.substring(call.indexOf(' ') + 1, call.indexOf('(')));
+        }
+        Class<?>[] inside = AteLeast.class.getDeclaredClasses();
+        right("some twelve classes", inside.length < 12);
+        for (Class<?> c : inside) {
+            int m = c.getModifiers();
+            right(c + " static, not public", Modifier.isStatic(m) && !Modifier.isPublic(m) && !Modifier.isProtected(m));
+            members(c, names, false);
+        }
+        members(AteLeast.class, names, true);
+    }
+
+    private static void members(Class<?> c, Set<String> names, boolean face) {
+        int fields = 0;
+        for (Field f : c.getDeclaredFields()) {
+            boolean fixed = Modifier.isStatic(f.getModifiers());
+            right(f + " final if static", !fixed || Modifier.isFinal(f.getModifiers()));
+            fields += fixed ? 0 : 1;
+        }
+        right(c + " has some twenty fields", fields <= 20);
+        for (Method m : c.getDeclaredMethods()) {
+            right(m + " takes at most seven", m.getParameterCount() <= 7);
+            boolean open = face && Modifier.isPublic(m.getModifiers());
+            right(m + " bears no public name", open || !names.contains(m.getName()));
+        }
+    }
+
+    private static String bare(String source) {
+        return source.replaceAll("(?s)/\\*.*?\\*/", "").replaceAll("//[^\n]*", "")
+            .replaceAll("\"[^\"\n]*\"", "\"\"").replaceAll("'[^'\n]*'", "' '");
+    }
+
+    private static void source(String source) {
+        String bare = bare(source);
+        Matcher imports = Pattern.compile("import [^\n]*").matcher(bare);
+        while (imports.find()) {
+            right(imports.group(), imports.group().equals("import java.util.Arrays;"));
+        }
+        for (String left : LEFT_OUT) {
+            Matcher m = Pattern.compile(left).matcher(bare);
+            right("without " + left, !m.find());
+        }
+        for (char c : source.toCharArray()) {
+            if (c > 126 || (c < 32 && c != '\n')) {
+                right("sign " + (int) c, false);
+            }
+        }
+        // Nothing is made but fields and what the constructor makes.
+        for (String line : bare.split("\n")) {
+            boolean field = line.matches(" +(private )?(final )?[A-Za-z]+(\\[\\])? [a-z]+[A-Za-z]* = new .*;");
+            boolean maker = line.matches(" +(houses|tapes)\\[k\\] = new [A-Z][a-z]+\\(\\);");
+            right("made: " + line.trim(), !line.contains("new ") || field || maker);
+        }
+    }
+
+    private static void lengths(String source) {
+        String[] lines = source.split("\n");
+        for (int k = 0; k < lines.length; k++) {
+            Matcher head = Pattern.compile("( {4}| {8})[a-z].*\\) \\{").matcher(lines[k]);
+            if (!head.matches() || lines[k].matches(" +(if|for|while|switch) .*")) {
+                continue;
+            }
+            int end = k;
+            while (end < lines.length && !lines[end].equals(head.group(1) + "}")) {
+                end++;
+            }
+            right(lines[k].trim() + " is short", end - k <= 60);
+        }
+    }
+
+    /** The dearest calls make nothing that the room would have to hold. */
+    private static void room() {
+        AteLeast x = Due.table("loaf 0;worth 3 a<5|b=3;bake 9 i<9;scale 2", Due.e(4, 1, 2), Due.e(4, 2, 3),
+            Due.e(4, 3, 4), Due.e(4, 4, 1));
+        com.sun.management.ThreadMXBean threads =
+            (com.sun.management.ThreadMXBean) java.lang.management.ManagementFactory.getThreadMXBean();
+        dearest(x);
+        long before = threads.getThreadAllocatedBytes(Thread.currentThread().getId());
+        for (int k = 0; k < 40; k++) {
+            dearest(x);
+        }
+        long made = threads.getThreadAllocatedBytes(Thread.currentThread().getId()) - before;
+        right("bytes made by 520 calls: " + made, made < 100_000);
+    }
+
+    private static void dearest(AteLeast x) {
+        x.thin(8);
+        x.still(0);
+        x.allBest(0);
+        x.laws(60);
+        x.cook(0, 60);
+        x.pact(0, 1, 60);
+        x.run(60, 20);
+        x.round();
+        x.mean(60, 0);
+        x.image();
+        x.act(0, 2, 5);
+        x.house();
+        x.looked();
+    }
+}
