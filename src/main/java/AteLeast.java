@@ -861,6 +861,8 @@ public final class AteLeast {
     /** Clauses; the tests of each stand as a row of signs, operands ahead of what joins them. */
     static final class House {
         static final int TEST = 0, NOT = 1, AND = 2, OR = 3;
+        /** No letter stands for more; a number of two digits is this at most. */
+        private static final int MOST_VALUE = 99;
 
         private final int[] sort = new int[MOST_CLAUSES];
         private final int[] n = new int[MOST_CLAUSES];
@@ -898,7 +900,7 @@ public final class AteLeast {
             }
             letter[length] = itsLetter;
             least[length] = relation == 0 ? 0 : relation == 1 ? number : number + 1;
-            most[length] = relation == 0 ? number - 1 : relation == 1 ? number : Integer.MAX_VALUE;
+            most[length] = relation == 0 ? number - 1 : relation == 1 ? number : MOST_VALUE;
             addSign(TEST);
         }
 

@@ -8,6 +8,7 @@ import java.nio.file.Path;
 import java.util.Arrays;
 import java.util.HashSet;
 import java.util.List;
+import java.util.Random;
 import java.util.Set;
 import java.util.TreeSet;
 import java.util.regex.Matcher;
@@ -31,6 +32,9 @@ public final class LanguageTest {
         "\\bassert\\b", "->", "::", "Exact\\b", "\\bpackage\\b", "\\bstatic \\{", "\\bvar\\b", "\\bwhile \\(true\\)",
         "\\bMap\\b", "\\bSet\\b", "\\bRandom\\b", "\\bThread\\b", "\\bfloat\\b", "\\bdouble\\b", "@",
         "System\\.(?!arraycopy\\()", "Arrays\\.(?!fill\\()", "\\?\\?\\?", "\\bequals\\b", "\\btoString\\b",
+        "\\b(Integer|Long)\\.(?!MIN_VALUE;)", "Math\\.(?!(min|max|abs)\\()", "\\) \\{ *\\}", "for \\(; *;", "\\bwhile\\b",
+        "\\bstrictfp\\b", "\\bnative\\b", "\"\" \\+", "\\+ \"\"", "[=!]= \"\"", "\\bhashCode\\b", "\\[\\]\\[\\]",
+        "\\.(?!length\\b|charAt\\(|indexOf\\()[a-z]\\w*\\(\"",
     };
 
     public static void main(String[] args) throws IOException {
@@ -40,6 +44,7 @@ public final class LanguageTest {
         source(source);
         lengths(source);
         room();
+        neverThrows();
         due.end();
     }
 
@@ -161,11 +166,11 @@ public final class LanguageTest {
             (com.sun.management.ThreadMXBean) java.lang.management.ManagementFactory.getThreadMXBean();
         dearest(x);
         long before = threads.getThreadAllocatedBytes(Thread.currentThread().getId());
-        for (int k = 0; k < 40; k++) {
+        for (int k = 0; k < 33; k++) {
             dearest(x);
         }
         long made = threads.getThreadAllocatedBytes(Thread.currentThread().getId()) - before;
-        right("bytes made by 520 calls: " + made, made < 100_000);
+        right("bytes made by 429 calls: " + made, made < 100_000);
     }
 
     private static void dearest(AteLeast x) {
@@ -182,5 +187,40 @@ public final class LanguageTest {
         x.act(0, 2, 5);
         x.house();
         x.looked();
+    }
+
+    /** Rule 7: whatever the numbers and whatever happened before, each call answers. */
+    private static void neverThrows() {
+        int[] numbers = {Integer.MIN_VALUE, Integer.MIN_VALUE + 1, Integer.MIN_VALUE + 10, Integer.MIN_VALUE + 20, -100, -2,
+            -1, 0, 1, 2, 3, 4, 5, 6, 7, 8, 9, 10, 11, 12, 13, 14, 15, 19, 20, 24, 25, 59, 60, 61, 99, 100, 101, 127, 128,
+            Integer.MAX_VALUE - 60, Integer.MAX_VALUE - 1, Integer.MAX_VALUE};
+        Method[] calls = AteLeast.class.getDeclaredMethods();
+        Arrays.sort(calls, (a, b) -> told(a).compareTo(told(b)));
+        Random random = new Random(7);
+        for (int run = 0; run < 150; run++) {
+            AteLeast x = Due.table(run % 3 == 0 ? "" : "worth 3 a<5|b=3;bake 9 i<9;scale 2;law " + run % 3);
+            for (int k = 0; k < 5; k++) {
+                x.eater(run % 2 == 0 ? 4 : random.nextInt(7), random.nextInt(10), random.nextInt(10));
+            }
+            for (int k = 0; k < 440; k++) {
+                Method call = calls[random.nextInt(calls.length)];
+                if (Modifier.isPublic(call.getModifiers())) {
+                    answers(call, x, numbers, random);
+                }
+            }
+        }
+    }
+
+    private static void answers(Method call, AteLeast x, int[] numbers, Random random) {
+        Object[] by = new Object[call.getParameterCount()];
+        for (int k = 0; k < by.length; k++) {
+            int number = numbers[random.nextInt(numbers.length)];
+            by[k] = call.getParameterTypes()[k] == long.class ? (Object) ((long) number << random.nextInt(33)) : number;
+        }
+        try {
+            right(call.getName() + " answers", call.invoke(x, by) != null);
+        } catch (ReflectiveOperationException thrown) {
+            right(call.getName() + Arrays.toString(by) + " threw " + thrown.getCause(), false);
+        }
     }
 }

@@ -3,6 +3,8 @@ import java.util.Random;
 /** All promises: random runs of calls, each answer held against Model's. The seeds are fixed. */
 public final class ModelTest {
     private static final int RUNS = 200, CALLS = 140;
+    /** No more are begun behind so many, as 512 are promised and one step may take a hundred. */
+    private static final int MOST_CALLS = 400;
     private static final Due due = new Due("ModelTest");
     private static final int[] ODD = {
         Integer.MIN_VALUE, Integer.MIN_VALUE + 10, Integer.MIN_VALUE + 20, -1000, -2, -1, 100, 128, 1000,
@@ -13,6 +15,7 @@ public final class ModelTest {
     private final AteLeast x = new AteLeast();
     private final Model m = new Model();
     private final StringBuilder calls = new StringBuilder();
+    private int asked = 0;
 
     private ModelTest(long seed) {
         random = new Random(seed);
@@ -38,12 +41,13 @@ public final class ModelTest {
             feedHouse();
             is("house()", x.house(), m.house());
         }
-        for (int k = 0; k < CALLS; k++) {
+        for (int k = 0; k < CALLS && asked < MOST_CALLS; k++) {
             call(random.nextInt(34));
         }
     }
 
     private void is(String call, long got, long want) {
+        asked++;
         calls.append(call).append("; ");
         due.is(got == want ? call : calls.toString(), got, want);
     }
