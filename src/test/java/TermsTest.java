@@ -579,6 +579,17 @@ public final class TermsTest {
                 due.is("GLAD is that more, day " + day, x.of(e, 4), day * has[e]);
             }
         }
+        AteLeast last = Due.table("law 1;worth 2 a=9;bake 7 a=9;bake 1 a<9", Due.e(0, 0, 8), Due.e(0, 0, 8), Due.e(0, 0, 8),
+            Due.e(0, 0, 8), Due.e(4, 0, 0));
+        last.bin(99);
+        last.hunger(4, 9);
+        due.is("the first of those who ate most bakes", last.supper(), 0);
+        due.is("BEST would not: it ate less", last.of(4, 3), 0);
+        AteLeast most = Due.table("law 1;worth 2 a=9;bake 7 a=9;bake 1 a<9", Due.e(0, 0, 8), Due.e(0, 0, 8), Due.e(0, 0, 8),
+            Due.e(0, 0, 8), Due.e(0, 0, 9));
+        most.bin(99);
+        due.is("the last of five ate 9 and bakes", most.supper(), 4);
+        due.is("the 9th slice, less COST behind nine", most.of(4, 4), -5);
         AteLeast none = Due.table("worth 9 a>0;bake 99 i>0", Due.e(0, 0, 0));
         none.supper();
         due.is("nothing eaten, nothing that it costs", none.of(0, 4), 0);
