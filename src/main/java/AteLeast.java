@@ -901,7 +901,8 @@ public final class AteLeast {
             letter[length] = itsLetter;
             least[length] = relation == 0 ? 0 : relation == 1 ? number : number + 1;
             most[length] = relation == 0 ? number - 1 : relation == 1 ? number : MOST_VALUE;
-            addSign(TEST);
+            signs[length] = TEST;
+            length++;
         }
 
         /** Ends a clause: the signs since the one before are its tests. */

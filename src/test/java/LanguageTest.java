@@ -8,8 +8,10 @@ import java.nio.file.Path;
 import java.util.Arrays;
 import java.util.HashSet;
 import java.util.List;
+import java.util.Map;
 import java.util.Random;
 import java.util.Set;
+import java.util.TreeMap;
 import java.util.TreeSet;
 import java.util.regex.Matcher;
 import java.util.regex.Pattern;
@@ -43,6 +45,7 @@ public final class LanguageTest {
         String source = Files.readString(Path.of("src/main/java/AteLeast.java"));
         source(source);
         lengths(source);
+        depths(bare(source));
         room();
         neverThrows();
         due.end();
@@ -156,6 +159,66 @@ public final class LanguageTest {
             }
             right(lines[k].trim() + " is short", end - k <= 60);
         }
+    }
+
+    /** Rule 11: calls go at most eight deep, each that is open counted once, recursion too. */
+    private static void depths(String bare) {
+        Map<String, Set<String>> calls = calls(bare);
+        right("methods are found", calls.size() > FACE.length);
+        for (String method : calls.keySet()) {
+            int deepest = deepest(method, calls, new HashSet<>());
+            right(method + " goes " + deepest + " deep", deepest <= 8);
+        }
+    }
+
+    /** Of each method ("Class.name") those that it calls; behind a dot, any class's of that name. */
+    private static Map<String, Set<String>> calls(String bare) {
+        Map<String, String> bodies = new TreeMap<>();
+        String owner = "AteLeast";
+        String method = "";
+        for (String line : bare.split("\n")) {
+            Matcher type = Pattern.compile(" {4}static final class (\\w+) \\{").matcher(line);
+            Matcher head = Pattern.compile("(?: {4}| {8})(?:[a-z]\\S* )*[A-Za-z\\[\\]]+ (\\w+)\\([^()]*\\) \\{").matcher(line);
+            if (type.matches()) {
+                owner = type.group(1);
+            } else if (head.matches()) {
+                method = owner + "." + head.group(1);
+                bodies.put(method, "");
+            } else if (bodies.containsKey(method)) {
+                bodies.merge(method, line + "\n", String::concat);
+            }
+        }
+        Map<String, Set<String>> calls = new TreeMap<>();
+        for (String of : bodies.keySet()) {
+            calls.put(of, called(of.substring(0, of.indexOf('.')), bodies.get(of), bodies.keySet()));
+        }
+        return calls;
+    }
+
+    private static Set<String> called(String owner, String body, Set<String> methods) {
+        Set<String> called = new TreeSet<>();
+        Matcher call = Pattern.compile("(\\.?)\\b(\\w+)\\(").matcher(body);
+        while (call.find()) {
+            for (String method : methods) {
+                boolean own = method.equals(owner + "." + call.group(2));
+                if (own || (!call.group(1).isEmpty() && method.endsWith("." + call.group(2)))) {
+                    called.add(method);
+                }
+            }
+        }
+        return called;
+    }
+
+    private static int deepest(String method, Map<String, Set<String>> calls, Set<String> open) {
+        int deepest = 0;
+        open.add(method);
+        for (String called : calls.get(method)) {
+            if (!open.contains(called)) {
+                deepest = Math.max(deepest, deepest(called, calls, open));
+            }
+        }
+        open.remove(method);
+        return deepest + 1;
     }
 
     /** The dearest calls make nothing that the room would have to hold. */
